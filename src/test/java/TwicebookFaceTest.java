@@ -101,7 +101,8 @@ public final class TwicebookFaceTest {
       CHECKS.due(field.getName(), Modifier.isPrivate(kind) && Modifier.isFinal(kind), true);
     }
     for (Class<?> inside : Twicebook.class.getDeclaredClasses()) {
-      CHECKS.due(inside.getName(), Modifier.toString(inside.getModifiers()), "private static final");
+      String kind = Modifier.toString(inside.getModifiers());
+      CHECKS.due(inside.getName(), kind, "private static final");
       for (Field field : inside.getDeclaredFields()) {
         CHECKS.due(field.getName(), Modifier.isStatic(field.getModifiers()), false);
       }

@@ -665,6 +665,10 @@ public final class TwicebookPromisesTest {
     x.step();
     x.cut();
     due("isTrue() behind cut()", x.isTrue(), true);
+    x.limit(2);
+    due("isTrue() at the limit", x.isTrue(), true);
+    x.limit(1);
+    due("isTrue() at the limit 1", x.isTrue(), true);
   }
 
   private static void checksum() {
