@@ -32,6 +32,10 @@ final class Checks {
     }
   }
 
+  int counted() {
+    return right + wrong;
+  }
+
   int wrong() {
     return wrong;
   }

@@ -2,12 +2,12 @@ import java.util.NoSuchElementException;
 
 /** For each promise of the document: ordinary inputs, the edges it names, and wrong inputs. */
 public final class TwicebookPromisesTest {
-  private static final Class<IllegalArgumentException> ILLEGAL = IllegalArgumentException.class;
-  private static final Class<IllegalStateException> STATE = IllegalStateException.class;
-  private static final Class<IndexOutOfBoundsException> BOUNDS = IndexOutOfBoundsException.class;
-  private static final Class<NoSuchElementException> ABSENT = NoSuchElementException.class;
-  private static final int LEAST = Integer.MIN_VALUE;
-  private static final int GREATEST = Integer.MAX_VALUE;
+  private static final Class<IllegalArgumentException> ILLEGAL = Books.ILLEGAL;
+  private static final Class<IllegalStateException> STATE = Books.STATE;
+  private static final Class<IndexOutOfBoundsException> BOUNDS = Books.BOUNDS;
+  private static final Class<NoSuchElementException> ABSENT = Books.ABSENT;
+  private static final int LEAST = Books.LEAST;
+  private static final int GREATEST = Books.GREATEST;
   private static final Checks CHECKS = new Checks();
 
   public static void main(String[] args) {
@@ -69,35 +69,8 @@ public final class TwicebookPromisesTest {
     CHECKS.due(call, got, want);
   }
 
-  /** A book with the keys in this order of coming, each with ten times its key as value. */
-  private static Twicebook bookOf(int... keys) {
-    Twicebook x = new Twicebook();
-    x.limit(12);
-    for (int key : keys) {
-      x.put(key, 10 * key);
-    }
-    return x;
-  }
-
-  private static String keys(Twicebook x, char order) {
-    StringBuilder text = new StringBuilder();
-    for (int place = 0; place < x.size(); place++) {
-      text.append(place == 0 ? "" : " ").append(x.keyAt(order, place));
-    }
-    return text.toString();
-  }
-
   private static void dueOrders(String what, Twicebook x, String coming, String asking) {
-    due(what + ": order of coming", keys(x, 'c'), coming);
-    due(what + ": order of asking", keys(x, 'a'), asking);
-  }
-
-  private static int kept(Twicebook x) {
-    int count = 0;
-    while (!Checks.outcome(x::undo).startsWith("throws.")) {
-      count++;
-    }
-    return count;
+    Books.dueOrders(CHECKS, what, x, coming, asking);
   }
 
   private static void newObject() {
@@ -121,7 +94,7 @@ public final class TwicebookPromisesTest {
 
   private static void put() {
     CHECKS.about("promise 2, put");
-    Twicebook x = bookOf(1, 2, 3);
+    Twicebook x = Books.of(1, 2, 3);
     due("put(1, 11)", x.put(1, 11), -1);
     due("look(1)", x.look(1), 11);
     dueOrders("touched", x, "1 2 3", "2 3 1");
@@ -143,7 +116,7 @@ public final class TwicebookPromisesTest {
     for (int key : new int[] {-1, 100, LEAST, GREATEST}) {
       CHECKS.dueThrow("put(" + key + ", 0)", ILLEGAL, () -> x.put(key, 0));
     }
-    Twicebook again = bookOf(1, 2);
+    Twicebook again = Books.of(1, 2);
     again.remove(1);
     again.put(1, 5);
     dueOrders("1 came in again", again, "2 1", "2 1");
@@ -151,7 +124,7 @@ public final class TwicebookPromisesTest {
 
   private static void putIfAbsent() {
     CHECKS.about("promise 3, putIfAbsent");
-    Twicebook x = bookOf(1, 2);
+    Twicebook x = Books.of(1, 2);
     due("putIfAbsent(1, 5)", x.putIfAbsent(1, 5), false);
     due("look(1)", x.look(1), 10);
     dueOrders("touched", x, "1 2", "2 1");
@@ -169,7 +142,7 @@ public final class TwicebookPromisesTest {
 
   private static void get() {
     CHECKS.about("promise 4, get");
-    Twicebook x = bookOf(1, 2, 3);
+    Twicebook x = Books.of(1, 2, 3);
     due("get(2)", x.get(2), 20);
     dueOrders("touched", x, "1 2 3", "1 3 2");
     due("get(2) again", x.get(2), 20);
@@ -182,7 +155,7 @@ public final class TwicebookPromisesTest {
 
   private static void getOr() {
     CHECKS.about("promise 5, getOr");
-    Twicebook x = bookOf(1, 2, 3);
+    Twicebook x = Books.of(1, 2, 3);
     due("getOr(1, 7)", x.getOr(1, 7), 10);
     dueOrders("touched", x, "1 2 3", "2 3 1");
     for (int key : new int[] {0, 4, -1, 100, LEAST, GREATEST}) {
@@ -194,7 +167,7 @@ public final class TwicebookPromisesTest {
 
   private static void replace() {
     CHECKS.about("promise 6, replace");
-    Twicebook x = bookOf(1, 2, 3);
+    Twicebook x = Books.of(1, 2, 3);
     due("replace(1, 7)", x.replace(1, 7), true);
     due("look(1)", x.look(1), 7);
     dueOrders("touched", x, "1 2 3", "2 3 1");
@@ -207,7 +180,7 @@ public final class TwicebookPromisesTest {
 
   private static void replaceIf() {
     CHECKS.about("promise 7, replaceIf");
-    Twicebook x = bookOf(1, 2, 3);
+    Twicebook x = Books.of(1, 2, 3);
     due("replaceIf(1, 9, 7)", x.replaceIf(1, 9, 7), false);
     due("look(1)", x.look(1), 10);
     dueOrders("not touched", x, "1 2 3", "1 2 3");
@@ -222,7 +195,7 @@ public final class TwicebookPromisesTest {
 
   private static void look() {
     CHECKS.about("promise 8, look");
-    Twicebook x = bookOf(1, 2, 3);
+    Twicebook x = Books.of(1, 2, 3);
     due("look(1)", x.look(1), 10);
     due("look(3)", x.look(3), 30);
     dueOrders("not touched", x, "1 2 3", "1 2 3");
@@ -233,7 +206,7 @@ public final class TwicebookPromisesTest {
 
   private static void has() {
     CHECKS.about("promise 9, has");
-    Twicebook x = bookOf(1, 2, 0);
+    Twicebook x = Books.of(1, 2, 0);
     due("has(1)", x.has(1), true);
     due("has(0)", x.has(0), true);
     dueOrders("not touched", x, "1 2 0", "1 2 0");
@@ -246,7 +219,7 @@ public final class TwicebookPromisesTest {
 
   private static void remove() {
     CHECKS.about("promise 10, remove");
-    Twicebook x = bookOf(1, 2, 3);
+    Twicebook x = Books.of(1, 2, 3);
     x.get(1);
     due("remove(2)", x.remove(2), 20);
     dueOrders("2 is out", x, "1 3", "3 1");
@@ -275,7 +248,7 @@ public final class TwicebookPromisesTest {
 
   private static void limit() {
     CHECKS.about("promise 12, limit");
-    Twicebook x = bookOf(1, 2, 3, 4, 5, 6, 7, 8, 9, 10, 11, 12);
+    Twicebook x = Books.of(1, 2, 3, 4, 5, 6, 7, 8, 9, 10, 11, 12);
     due("size()", x.size(), 12);
     x.get(1);
     due("limit(12)", x.limit(12), 0);
@@ -293,7 +266,7 @@ public final class TwicebookPromisesTest {
     }
     due("limit(12)", x.limit(12), 0);
     due("size()", x.size(), 1);
-    Twicebook once = bookOf(1, 2, 3);
+    Twicebook once = Books.of(1, 2, 3);
     once.limit(1);
     once.undo();
     dueOrders("one change for all that go", once, "1 2 3", "1 2 3");
@@ -302,7 +275,7 @@ public final class TwicebookPromisesTest {
 
   private static void way() {
     CHECKS.about("promise 13, way");
-    Twicebook x = bookOf(1, 2, 3);
+    Twicebook x = Books.of(1, 2, 3);
     due("way('a')", x.way('a'), 'c');
     due("way('a')", x.way('a'), 'a');
     due("way('c')", x.way('c'), 'a');
@@ -317,7 +290,7 @@ public final class TwicebookPromisesTest {
 
   private static void keyAt() {
     CHECKS.about("promise 14, keyAt");
-    Twicebook x = bookOf(5, 6, 7);
+    Twicebook x = Books.of(5, 6, 7);
     x.get(5);
     due("keyAt('c', 0)", x.keyAt('c', 0), 5);
     due("keyAt('c', 2)", x.keyAt('c', 2), 7);
@@ -333,7 +306,7 @@ public final class TwicebookPromisesTest {
 
   private static void placeOf() {
     CHECKS.about("promise 15, placeOf");
-    Twicebook x = bookOf(5, 6, 7);
+    Twicebook x = Books.of(5, 6, 7);
     x.get(5);
     due("placeOf('c', 5)", x.placeOf('c', 5), 0);
     due("placeOf('a', 5)", x.placeOf('a', 5), 2);
@@ -348,7 +321,7 @@ public final class TwicebookPromisesTest {
 
   private static void setAt() {
     CHECKS.about("promise 16, setAt");
-    Twicebook x = bookOf(5, 6, 7);
+    Twicebook x = Books.of(5, 6, 7);
     x.get(5);
     due("setAt('c', 0, 1)", x.setAt('c', 0, 1), 50);
     due("setAt('a', 0, 2)", x.setAt('a', 0, 2), 60);
@@ -367,7 +340,7 @@ public final class TwicebookPromisesTest {
 
   private static void removeAt() {
     CHECKS.about("promise 17, removeAt");
-    Twicebook x = bookOf(5, 6, 7, 8);
+    Twicebook x = Books.of(5, 6, 7, 8);
     x.get(5);
     due("removeAt('a', 3)", x.removeAt('a', 3), 5);
     due("removeAt('c', 0)", x.removeAt('c', 0), 6);
@@ -384,7 +357,7 @@ public final class TwicebookPromisesTest {
 
   private static void thin() {
     CHECKS.about("promise 18, thin");
-    Twicebook x = bookOf(0, 1, 2, 3, 4, 5, 6, 7, 8, 9, 10, 11);
+    Twicebook x = Books.of(0, 1, 2, 3, 4, 5, 6, 7, 8, 9, 10, 11);
     x.get(0);
     due("thin('c', 5)", x.thin('c', 5), 2);
     dueOrders("4 and 9 are out", x, "0 1 2 3 5 6 7 8 10 11", "1 2 3 5 6 7 8 10 11 0");
@@ -403,14 +376,14 @@ public final class TwicebookPromisesTest {
       CHECKS.dueThrow("thin('b', " + each + ")", ILLEGAL, () -> x.thin('b', each));
     }
     CHECKS.dueThrow("thin('b', 1)", ILLEGAL, () -> x.thin('b', 1));
-    Twicebook full = bookOf(0, 1, 2, 3, 4, 5, 6, 7, 8, 9, 10, 11);
+    Twicebook full = Books.of(0, 1, 2, 3, 4, 5, 6, 7, 8, 9, 10, 11);
     due("thin('a', 12)", full.thin('a', 12), 1);
     due("has(11)", full.has(11), false);
   }
 
   private static void walk() {
     CHECKS.about("promise 19, walk");
-    Twicebook x = bookOf(1, 2, 3);
+    Twicebook x = Books.of(1, 2, 3);
     x.get(1);
     due("walk('a')", x.walk('a'), 3);
     due("step()", x.step(), 2);
@@ -424,7 +397,7 @@ public final class TwicebookPromisesTest {
 
   private static void step() {
     CHECKS.about("promise 20, step");
-    Twicebook x = bookOf(1, 2, 3);
+    Twicebook x = Books.of(1, 2, 3);
     CHECKS.dueThrow("step() without a walk", STATE, x::step);
     x.get(2);
     x.walk('a');
@@ -443,7 +416,7 @@ public final class TwicebookPromisesTest {
 
   private static void cut() {
     CHECKS.about("promise 21, cut");
-    Twicebook x = bookOf(1, 2, 3, 4);
+    Twicebook x = Books.of(1, 2, 3, 4);
     x.get(1);
     CHECKS.dueThrow("cut() without a walk", STATE, x::cut);
     x.walk('a');
@@ -463,7 +436,7 @@ public final class TwicebookPromisesTest {
     due("undo()", x.undo(), 7);
     dueOrders("1 is there again", x, "1 2 4", "2 4 1");
     CHECKS.dueThrow("step(), for undo ends the walk", STATE, x::step);
-    Twicebook late = bookOf(1, 2);
+    Twicebook late = Books.of(1, 2);
     late.walk('c');
     late.step();
     late.look(1);
@@ -493,14 +466,14 @@ public final class TwicebookPromisesTest {
   private static void walkIsOver() {
     CHECKS.about("terms, a walk is over by any change but cut");
     for (int number = 0; number < CHANGES.length; number++) {
-      Twicebook x = bookOf(1, 2, 3);
+      Twicebook x = Books.of(1, 2, 3);
       x.walk('c');
       x.step();
       CHANGES[number].on(x);
       CHECKS.dueThrow("cut() behind " + CHANGE_NAMES[number], STATE, x::cut);
       CHECKS.dueThrow("step() behind " + CHANGE_NAMES[number], STATE, x::step);
     }
-    Twicebook x = bookOf(1, 2, 3);
+    Twicebook x = Books.of(1, 2, 3);
     x.walk('c');
     x.undo();
     CHECKS.dueThrow("step() behind undo", STATE, x::step);
@@ -528,7 +501,7 @@ public final class TwicebookPromisesTest {
   private static void walkGoesOn() {
     CHECKS.about("terms, a walk goes on where nothing is changed");
     for (int number = 0; number < QUIET.length; number++) {
-      Twicebook x = bookOf(1, 2, 3);
+      Twicebook x = Books.of(1, 2, 3);
       x.walk('c');
       x.step();
       Change quiet = QUIET[number];
@@ -540,7 +513,7 @@ public final class TwicebookPromisesTest {
 
   private static void moves() {
     CHECKS.about("promise 22, moves");
-    Twicebook x = bookOf(1, 2, 3, 4);
+    Twicebook x = Books.of(1, 2, 3, 4);
     due("moves()", x.moves(), 0);
     x.get(4);
     due("moves() when the last was asked", x.moves(), 0);
@@ -557,7 +530,7 @@ public final class TwicebookPromisesTest {
 
   private static void move() {
     CHECKS.about("promise 23, move");
-    Twicebook x = bookOf(1, 2, 3, 4);
+    Twicebook x = Books.of(1, 2, 3, 4);
     CHECKS.dueThrow("move(0) of none", BOUNDS, () -> x.move(0));
     x.get(2);
     x.get(3);
@@ -570,7 +543,7 @@ public final class TwicebookPromisesTest {
 
   private static void crossings() {
     CHECKS.about("promise 24, crossings");
-    Twicebook x = bookOf(1, 2, 3, 4);
+    Twicebook x = Books.of(1, 2, 3, 4);
     due("crossings()", x.crossings(), 0);
     x.get(3);
     due("crossings() of 1 2 4 3", x.crossings(), 1);
@@ -610,7 +583,7 @@ public final class TwicebookPromisesTest {
     }
     CHECKS.dueThrow("undo() behind eight", ABSENT, many::undo);
     due("look(5) behind it", many.look(5), 11);
-    Twicebook gone = bookOf(1, 2, 3);
+    Twicebook gone = Books.of(1, 2, 3);
     gone.limit(3);
     gone.get(1);
     gone.put(4, 40);
@@ -622,7 +595,7 @@ public final class TwicebookPromisesTest {
   private static void undoOfEachChange() {
     CHECKS.about("terms, each change is kept");
     for (int number = 0; number < CHANGES.length; number++) {
-      Twicebook x = bookOf(1, 2, 3);
+      Twicebook x = Books.of(1, 2, 3);
       long before = x.checksum();
       CHANGES[number].on(x);
       due("undo() of " + CHANGE_NAMES[number], x.undo(), 4);
@@ -634,18 +607,18 @@ public final class TwicebookPromisesTest {
   private static void noChange() {
     CHECKS.about("terms, what changes nothing is not kept");
     for (int number = 0; number < QUIET.length; number++) {
-      Twicebook x = bookOf(1, 2, 3);
+      Twicebook x = Books.of(1, 2, 3);
       long before = x.checksum();
       Change quiet = QUIET[number];
       Checks.outcome(() -> quiet.on(x));
       due("checksum() behind " + QUIET_NAMES[number], x.checksum(), before);
-      due("kept behind " + QUIET_NAMES[number], kept(x), 4);
+      due("kept behind " + QUIET_NAMES[number], Books.kept(x), 4);
     }
-    Twicebook walked = bookOf(1, 2, 3);
+    Twicebook walked = Books.of(1, 2, 3);
     walked.walk('a');
     walked.step();
     Checks.outcome(walked::step);
-    due("kept behind walk and steps", kept(walked), 4);
+    due("kept behind walk and steps", Books.kept(walked), 4);
   }
 
   private static void isTrue() {
@@ -685,7 +658,7 @@ public final class TwicebookPromisesTest {
       sum = 31 * sum + part;
     }
     due("checksum()", x.checksum(), sum);
-    Twicebook full = bookOf(0, 1, 2, 3, 4, 5, 6, 7, 8, 9, 10, 11);
+    Twicebook full = Books.of(0, 1, 2, 3, 4, 5, 6, 7, 8, 9, 10, 11);
     long round = 7;
     for (int key = 0; key < 12; key++) {
       round = 31 * (31 * round + key) + 10 * key;
